@@ -228,16 +228,16 @@ public final class TextTools {
         }
 
         // Room for the longest line is made before it is begun, so that no put has to look for more;
-        // and rows double, so that what is left behind stays below what is in use.
+        // and rows grow fourfold, so that what is left behind stays small beside what is in use.
         private void makeRoom() {
             if (count >= MOST) {
                 return;
             }
             if (bytes.length < size + LONGEST) {
-                bytes = Arrays.copyOf(bytes, Math.min(MOST * LONGEST, 2 * bytes.length + LONGEST));
+                bytes = Arrays.copyOf(bytes, Math.min(MOST * LONGEST, 4 * bytes.length + LONGEST));
             }
             if (stops.length <= count) {
-                stops = Arrays.copyOf(stops, Math.min(MOST, 2 * stops.length + 8));
+                stops = Arrays.copyOf(stops, Math.min(MOST, 4 * stops.length + 8));
             }
         }
 
@@ -520,7 +520,11 @@ public final class TextTools {
         }
     }
 
-    /** The tools: their options with what each wants behind it, and how many operands they take. */
+    /**
+     * The tools: their options, what each of these wants behind it, and how many operands they take.
+     * Wanted is nothing (-), a number (N), 1 or 2 for a file (F), a byte (C), a LIST (L), what stands between
+     * fields (B), a key's fields (K), any text (S), or PARTS (P).
+     */
     private enum Tool {
         CAT("cat", "", "", 1, 20),
         TAC("tac", "", "", 0, 1),
@@ -584,7 +588,7 @@ public final class TextTools {
         // More are never reached: 300 lines have 299 places between them.
         private final int[] separators = new int[Lines.MOST];
         private int separatorCount;
-        // One more than a line could have between its separators: then it is too long without the rest.
+        // One more than fit into a line even if all are empty: it is too long then, whatever else was told.
         final int[] parts = new int[Fields.MOST + 1];
         int partCount;
         int keyFirst;
@@ -996,8 +1000,8 @@ public final class TextTools {
         private static boolean readOperand(Work work) {
             Words words = work.words;
             int file = words.is("-") ? Work.DASH : words.file();
-            boolean dashTwice = file == Work.DASH && (work.isFirst() || work.isDashTold());
-            if (file == NONE || dashTwice || work.operandCount >= work.tool.most) {
+            boolean strayDash = file == Work.DASH && (work.isFirst() || work.isDashTold());
+            if (file == NONE || strayDash || work.operandCount >= work.tool.most) {
                 return work.refuse(Work.BAD_OPERANDS, words.place);
             }
             work.addOperand(file, words.place);

@@ -323,6 +323,14 @@ public final class FaultTest {
         bench.gives("join -o 1.2" + ",1.2".repeat(240) + " b b", " ".repeat(240) + "\n");
         bench.refuses("join -o 1.2" + ",1.2".repeat(241) + " b b", 9, 0);
         bench.gives("join -o 1.2" + ",1.2".repeat(1000) + " b c", "");
+        Bench second = new Bench().file('a', "a\nb " + y.substring(2) + "\n").file('b', "a\nb\n").file('c', "\na\n");
+        second.gives("join a b", "a\nb " + y.substring(2) + "\n");
+        second.refuses("join -o 0,1.2,2.2 a b", 9, 0);
+        second.refuses("join -1 2 -a 1 -o 1.2,0 a b", 9, 0);
+        second.refuses("paste a b", 9, 0);
+        second.refuses("paste b a", 9, 0);
+        second.refuses("paste -s a", 9, 0);
+        second.refuses("comm c a", 9, 0);
     }
 
     private static void firstFaultCounts() {

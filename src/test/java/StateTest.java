@@ -123,6 +123,10 @@ public final class StateTest {
         Bench.same("240 bytes: length", x.length(0, 1), 240);
         Bench.throwsIt("241 bytes", UnsupportedOperationException.class, () -> Bench.storeText(x, 0, longest + "y"));
         Bench.throwsIt("241 bytes, ended", UnsupportedOperationException.class, () -> x.store(1));
+        Bench.throwsIt("241 bytes behind others", UnsupportedOperationException.class,
+            () -> Bench.storeText(x, 0, "a\nb\n" + longest + "y\nc\n"));
+        x.end(0);
+        Bench.lay(x, longest + "y");
         Bench.throwsIt("no file is said first", IndexOutOfBoundsException.class, () -> x.store(10));
         Bench.same("the file stayed", x.lines(0), 3);
         Bench.same("none came", x.lines(1), -1);

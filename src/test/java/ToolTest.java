@@ -89,6 +89,7 @@ public final class ToolTest {
         b.gives("cut -f 2 -d x -d : a", "b\nxyz\n\nq\n\n");
         new Bench().file('a', ":".repeat(239) + "z\n").gives("cut -d: -f240,99999 a", "z\n");
         new Bench().file('a', ":".repeat(240) + "\n").gives("cut -d: -f2- a", ":".repeat(239) + "\n");
+        new Bench().file('a', "a b\0c\n").gives("cut -d\0 -f2 a", "c\n");
         new Bench().file('a', "a\u00ffb\n").gives("cut -d\u00ff -f2 a", "b\n");
     }
 
@@ -278,6 +279,7 @@ public final class ToolTest {
         missing.gives("join -1 3 a b", " x\n y z\n");
         missing.gives("join -1 3 -2 9 a b", " x\n x p q\n y z\n y z p q\n");
         new Bench().file('a', ":1\n").file('b', "\n").gives("join -t: a b", ":1\n");
+        new Bench().file('a', ":".repeat(240) + "\n").file('b', "\n").gives("join -t: a b", ":".repeat(240) + "\n");
         new Bench().file('a', " 1\n").file('b', " 2\n").gives("join -t ' ' a b", " 1 2\n");
         new Bench().file('a', "k\n").file('b', "k\n").gives("join -t: -a1 -2 2 a b", "k\n");
     }
@@ -332,6 +334,13 @@ public final class ToolTest {
         Bench b = new Bench().file('a', "the cat\nthe dog\na cat\n").file('b', "cat\nfish\n");
         b.gives("cut -d ' ' -f 2 a | sort | uniq -c | sort -rn | head -n 1", "   2 cat\n");
         b.gives("cut -d ' ' -f 2 a|sort -u|comm -12 - b", "cat\n");
+        b.gives("paste b a | paste b", "cat\nfish\n");
+        b.gives("sort b a | sort b", "cat\nfish\n");
+        b.gives("cat b a | cat b", "cat\nfish\n");
+        b.gives("paste -s b a | paste -s b", "cat\tfish\n");
+        b.gives("cat b | tr a-z A-Z | tr A-B x", "CxT\nFISH\n");
+        b.gives("sort -r -n a | sort b | head -n 1 | head", "cat\n");
+        b.gives("join -v 1 -o 1.1 b b | cat b - | join - b", "cat\nfish\n");
         b.gives("sort -k 2 a | join -1 2 - b", "cat a\ncat the\n");
         b.gives("cat a | tr ' ' : | paste -s -d , - | rev", "tac:a,god:eht,tac:eht\n");
     }
