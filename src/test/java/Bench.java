@@ -2,10 +2,19 @@ import java.nio.charset.StandardCharsets;
 
 /** Files to try commands on: each check is done on a new object that has them. */
 final class Bench {
+    /** Stands in a text that was read for a 10 that is in a line, not behind it. */
+    static final char INNER_TEN = '\u2424';
+
     private static int checks = 0;
     private static int wrong = 0;
+    private static String sentence = "";
 
     private final String[] files = new String[10];
+
+    /** The words of the document that the next checks are of; a wrong answer is told with them. */
+    static void sentence(String words) {
+        sentence = words;
+    }
 
     Bench file(char letter, String text) {
         files[letter - 'a'] = text;
@@ -14,7 +23,7 @@ final class Bench {
 
     /** The command gives these lines (each ended by a newline) as OUT. */
     void gives(String command, String lines) {
-        TextTools x = make();
+        Session x = make();
         int count = runText(x, command);
         same(command + " : fault", x.fault(), 0);
         same(command + " : lines given", count, x.lines(10));
@@ -29,19 +38,19 @@ final class Bench {
     }
 
     void refuses(String command, int code, int place, int line, int side) {
-        TextTools x = make();
+        Session x = make();
         runText(x, "cat a");
-        String before = allOf(x);
+        String before = linesOf(x);
         same(command + " : answer", runText(x, command), -1 - place);
         same(command + " : code", x.fault(), code);
         same(command + " : line", x.line(), line);
         same(command + " : side", x.side(), side);
-        same(command + " : state", allOf(x), before);
+        same(command + " : state", linesOf(x), before);
         same(command + " : tape", x.feed(0, 0, 0, 0, 0), 20);
     }
 
-    TextTools make() {
-        TextTools x = new TextTools();
+    Session make() {
+        Session x = new Session();
         for (int f = 0; f < files.length; f++) {
             if (files[f] != null) {
                 lay(x, files[f]);
@@ -52,7 +61,7 @@ final class Bench {
     }
 
     /** Puts a text of bytes on the tape behind what is there; only whole feeds before the last one. */
-    static void lay(TextTools x, String text) {
+    static void lay(Session x, String text) {
         byte[] bytes = text.getBytes(StandardCharsets.ISO_8859_1);
         int size = 0;
         for (int i = 0; i < bytes.length; i += 20) {
@@ -67,30 +76,38 @@ final class Bench {
         }
     }
 
-    static int runText(TextTools x, String command) {
+    static int runText(Session x, String command) {
         x.end(0);
         lay(x, command);
         return x.run();
     }
 
-    static int storeText(TextTools x, int file, String text) {
+    static int storeText(Session x, int file, String text) {
         x.end(0);
         lay(x, text);
         return x.store(file);
     }
 
-    static String textOf(TextTools x, int file) {
+    static String textOf(Session x, int file) {
         StringBuilder text = new StringBuilder();
         for (int line = 0; line < x.lines(file); line++) {
             for (int i = 0; i < x.length(file, line); i++) {
-                text.append((char) x.byteAt(file, line, i));
+                int b = x.byteAt(file, line, i);
+                text.append(b == '\n' ? INNER_TEN : (char) b);
             }
             text.append('\n');
         }
         return x.lines(file) < 0 ? "not there" : text.toString();
     }
 
-    static String allOf(TextTools x) {
+    /** All that can be read of an object; the tape cannot be. */
+    static String allOf(Session x) {
+        StringBuilder all = new StringBuilder();
+        all.append(x.fault()).append(' ').append(x.line()).append(' ').append(x.side()).append('\n');
+        return all.append(linesOf(x)).toString();
+    }
+
+    static String linesOf(Session x) {
         StringBuilder all = new StringBuilder();
         for (int file = 0; file <= 10; file++) {
             all.append(file).append(": ").append(textOf(x, file)).append('\n');
@@ -106,6 +123,9 @@ final class Bench {
         checks++;
         if (!got.equals(due)) {
             wrong++;
+            if (!sentence.isEmpty()) {
+                System.out.println("the document: " + sentence);
+            }
             System.out.println(shown(what) + " : got <" + shown(got) + ">, due <" + shown(due) + ">");
         }
     }
@@ -129,7 +149,7 @@ final class Bench {
         StringBuilder shown = new StringBuilder();
         for (int i = 0; i < text.length(); i++) {
             char c = text.charAt(i);
-            shown.append(c == '\n' ? "\\n" : c == '\t' ? "\\t" : c < 32 || c > 126 ? "\\x" + Integer.toHexString(c) : "" + c);
+            shown.append(c == '\n' ? "\\n" : c == '\t' ? "\\t" : c == INNER_TEN ? "\\10" : c < 32 || c > 126 ? "\\x" + Integer.toHexString(c) : "" + c);
         }
         return shown.toString();
     }

@@ -347,7 +347,7 @@ public final class FaultTest {
     }
 
     private static void targets() {
-        TextTools x = BENCH.make();
+        Session x = BENCH.make();
         Bench.runText(x, "cat b");
         Bench.same("into a new file", Bench.runText(x, "cat a b > j"), 3);
         Bench.same("the file", Bench.textOf(x, 9), "x\n1\n2\n");
@@ -371,7 +371,7 @@ public final class FaultTest {
     }
 
     private static void latestRun() {
-        TextTools x = BENCH.make();
+        Session x = BENCH.make();
         Bench.runText(x, "comm c a");
         Bench.same("8", x.fault(), 8);
         Bench.same("8: line", x.line(), 2);

@@ -41,7 +41,7 @@ public final class StateTest {
     }
 
     private static void newObject() {
-        TextTools x = new TextTools();
+        Session x = new Session();
         for (int file = 0; file < 10; file++) {
             Bench.same("new: lines of " + file, x.lines(file), -1);
             Bench.same("new: drop " + file, x.drop(file) ? 1 : 0, 0);
@@ -57,13 +57,13 @@ public final class StateTest {
     }
 
     private static void feed() {
-        TextTools x = new TextTools();
+        Session x = new Session();
         Bench.same("feed", x.feed(0x61626364, 0x65666768, 0x80ff0102, -1, 0x7f000041), 20);
         Bench.same("feed again", x.feed(0x41000000, 0, 0, 0, 0), 40);
         x.end(21);
         Bench.same("what was fed", x.store(3), 1);
         Bench.same("its bytes", Bench.textOf(x, 3), "abcdefgh\u0080\u00ff\u0001\u0002\u00ff\u00ff\u00ff\u00ff\u007f\0\0AA\n");
-        TextTools y = new TextTools();
+        Session y = new Session();
         for (int n = 1; n <= 450; n++) {
             Bench.same("feed " + n, y.feed(0x61616161, 0x61616161, 0x61616161, 0x61616161, 0x6161610a), 20 * n);
         }
@@ -79,7 +79,7 @@ public final class StateTest {
     }
 
     private static void end() {
-        TextTools x = new TextTools();
+        Session x = new Session();
         Bench.lay(x, "abcdefghijklmnopqrstuvwxyz");
         x.end(26);
         Bench.throwsIt("end(27) of 26", IllegalArgumentException.class, () -> x.end(27));
@@ -95,7 +95,7 @@ public final class StateTest {
     }
 
     private static void store() {
-        TextTools x = new TextTools();
+        Session x = new Session();
         Bench.same("nothing", x.store(0), 0);
         Bench.same("an empty file is there", x.lines(0), 0);
         Bench.same("ended", Bench.storeText(x, 0, "a\nbc\n"), 2);
@@ -117,7 +117,7 @@ public final class StateTest {
     }
 
     private static void storeLimits() {
-        TextTools x = new TextTools();
+        Session x = new Session();
         String longest = Bench.times("y", 240);
         Bench.same("240 bytes", Bench.storeText(x, 0, "a\n" + longest + "\nb"), 3);
         Bench.same("240 bytes: length", x.length(0, 1), 240);
@@ -142,7 +142,7 @@ public final class StateTest {
     }
 
     private static void drop() {
-        TextTools x = new TextTools();
+        Session x = new Session();
         Bench.storeText(x, 0, "a\n");
         Bench.storeText(x, 9, "");
         Bench.same("drop", x.drop(0) ? 1 : 0, 1);
@@ -160,7 +160,7 @@ public final class StateTest {
     }
 
     private static void lines() {
-        TextTools x = new TextTools();
+        Session x = new Session();
         Bench.storeText(x, 0, "a\nb\nc\n");
         Bench.storeText(x, 1, "");
         Bench.same("lines", x.lines(0), 3);
@@ -177,7 +177,7 @@ public final class StateTest {
     }
 
     private static void length() {
-        TextTools x = new TextTools();
+        Session x = new Session();
         Bench.storeText(x, 0, "abc\n\nde");
         Bench.same("length", x.length(0, 0), 3);
         Bench.same("length of an empty line", x.length(0, 1), 0);
@@ -196,7 +196,7 @@ public final class StateTest {
     }
 
     private static void byteAt() {
-        TextTools x = new TextTools();
+        Session x = new Session();
         Bench.storeText(x, 4, "ab\n\n\u00ff\0");
         Bench.same("byteAt", x.byteAt(4, 0, 1), 'b');
         Bench.same("byteAt: 255", x.byteAt(4, 2, 0), 255);
