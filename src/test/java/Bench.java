@@ -145,11 +145,19 @@ final class Bench {
         return text.repeat(n);
     }
 
+    private static String shown(char c) {
+        switch (c) {
+            case '\n': return "\\n";
+            case '\t': return "\\t";
+            case INNER_TEN: return "\\10";
+            default: return c < 32 || c > 126 ? "\\x" + Integer.toHexString(c) : String.valueOf(c);
+        }
+    }
+
     private static String shown(String text) {
         StringBuilder shown = new StringBuilder();
         for (int i = 0; i < text.length(); i++) {
-            char c = text.charAt(i);
-            shown.append(c == '\n' ? "\\n" : c == '\t' ? "\\t" : c == INNER_TEN ? "\\10" : c < 32 || c > 126 ? "\\x" + Integer.toHexString(c) : "" + c);
+            shown.append(shown(text.charAt(i)));
         }
         return shown.toString();
     }

@@ -159,7 +159,8 @@ public final class EdgesOfCommandsTest {
             Bench.same("> " + letter, Bench.runText(x, "cat b > " + letter + "  "), 2);
             Bench.same("no fault", x.fault(), 0);
         }
-        String[] bad = {"k", "`", "A", "J", "aa", "a1", "0", "1", "10", "-", "-a", "''", "' '", "'a '", "\t", "\n", "\u0000", "\u00e1", "?"};
+        String[] bad = {"k", "`", "A", "J", "aa", "a1", "0", "1", "10", "-", "-a", "''", "' '", "'a '", "\t", "\n", "\0",
+            "\u00e1", "?"};
         for (String letter : bad) {
             BENCH.refuses("cat b > " + letter, 2, 8);
         }
@@ -506,7 +507,8 @@ public final class EdgesOfCommandsTest {
 
     private static void noSuchTool() {
         Bench.sentence("3 at a name that is no tool's.");
-        String[] bad = {"frob", "Cat", "CAT", "ca", "cata", "c", "-", "-n", "a", "''", "'cat '", "' cat'", "cat\0", "\u00ff", "tacc", "sor", "grep"};
+        String[] bad = {"frob", "Cat", "CAT", "ca", "cata", "c", "-", "-n", "a", "''", "'cat '", "' cat'", "cat\0", "\u00ff",
+            "tacc", "sor", "grep"};
         for (String name : bad) {
             BENCH.refuses(name, 3, 0);
             BENCH.refuses(name + " a", 3, 0);
@@ -564,7 +566,8 @@ public final class EdgesOfCommandsTest {
             BENCH.refuses("join -a " + side + " b b", 5, 8);
             BENCH.refuses("join -v " + side + " b b", 5, 8);
         }
-        String[] badParts = {"1", "2", "0.1", "3.1", "1.0", "1.", ".1", "1.1.1", "0,", ",0", ",", "''", "0,,0", "1.100000", "1.1,3.1", "'0 '"};
+        String[] badParts = {"1", "2", "0.1", "3.1", "1.0", "1.", ".1", "1.1.1", "0,", ",0", ",", "''", "0,,0", "1.100000",
+            "1.1,3.1", "'0 '"};
         for (String parts : badParts) {
             BENCH.refuses("join -o " + parts + " b b", 5, 8);
         }

@@ -390,7 +390,8 @@ public final class EdgesOfStateTest {
     }
 
     private static void storeTooMuch() {
-        Bench.sentence("UnsupportedOperationException: a line would have more than 240 bytes, or they would be more than 300 (the tape stays)");
+        Bench.sentence("UnsupportedOperationException: a line would have more than 240 bytes, or they would be more than 300 "
+            + "(the tape stays)");
         String y = "y".repeat(240);
         String[] good = {y, y + "\n", "\n" + y, y + "\n" + y, "\n".repeat(300), "\n".repeat(299) + y, "a\n".repeat(300)};
         int[] counts = {1, 1, 2, 2, 300, 300, 300};
